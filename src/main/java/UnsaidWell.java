@@ -861,16 +861,19 @@ public final class UnsaidWell {
             return yard.worthOf(yard.holding(unsaid | set));
         }
 
+        private boolean isSoWith(Yard yard, int set, int holds, int not) {
+            int held = yard.holding(unsaid | set);
+            return (held & holds) == holds && (held & not) == 0;
+        }
+
         /** The SET, unsaid for the fewest pails, by which all of one SET hold and none of the other; NONE. */
         int cheapestFor(Yard yard, int holds, int not) {
             int cheapest = NONE;
             int fewest = 0;
             for (int set = 0; set < 1 << yard.sayings; set++) {
-                if (canBeUnsaid(set)) {
+                if (canBeUnsaid(set) && isSoWith(yard, set, holds, not)) {
                     int pails = pailsFor(yard, set);
-                    int held = yard.holding(unsaid | set);
-                    boolean isSo = (held & holds) == holds && (held & not) == 0;
-                    if (isSo && (cheapest == NONE || pails < fewest)) {
+                    if (cheapest == NONE || pails < fewest) {
                         cheapest = set;
                         fewest = pails;
                     }
@@ -1019,7 +1022,8 @@ public final class UnsaidWell {
                 with[s] = 0;
             }
             for (int set = 0; set < 1 << yard.sayings; set++) {
-                if (yard.weightOf(set) == weight && yard.holding(set) == holds) {
+                // What is unsaid does not hold: most sets need no closer look.
+                if ((set & holds) == 0 && yard.weightOf(set) == weight && yard.holding(set) == holds) {
                     tally(set);
                 }
             }
