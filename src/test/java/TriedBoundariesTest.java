@@ -394,6 +394,12 @@ public final class TriedBoundariesTest {
         UnsaidWell w = Asked.yardOf("y0 0;p1;s0 1 1;s0 4 1;s0 3 1;s0 3 1;s0 4 1;s0 1 1;f0 1;f0 2;f0 3;f0 4;f0 5;");
         a.due(4, "wasUnsaid(0, 5, 0)", w.wasUnsaid(0, 5, 0));
         a.due(5, "wasUnsaid(0, 5, 2): halves", w.wasUnsaid(0, 5, 2));
+        // What was asked ahead of it leaves no trace: 0 was in the one SET, and is in none of the two.
+        UnsaidWell v = Asked.yardOf("y0 0;p1;s0 1 1;s0 1 1;s0 1 1;s0 1 1;f1 2;f1 3;");
+        a.due(NONE, "wasUnsaid(14, 1, 2)", v.wasUnsaid(14, 1, 2));
+        a.due(2, "wasUnsaid(1, 2, 2)", v.wasUnsaid(1, 2, 2));
+        a.due(2, "wasUnsaid(1, 2, 0)", v.wasUnsaid(1, 2, 0));
+        a.due(2, "wasUnsaid(1, 2, 1)", v.wasUnsaid(1, 2, 1));
     }
 
     // ---- promise 22
